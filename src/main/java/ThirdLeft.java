@@ -7,7 +7,7 @@ public final class ThirdLeft {
     private static final int PARTS = 0, PIECES = 1;
     private static final int BLANK = 32;
     private static final int ROWS = 6, TEXTS = 4, PLACES = 60, KEPT = 3;
-    private static final int CROWD = 7, ALL_ORDERS = 5040, LAWS = 4;
+    private static final int CROWD = 7, ALL_ORDERS = 5040, ALL_TURNS = 2401, LAWS = 4;
     private static final int MOST_POT = 999, MOST_NEED = 99;
     private static final int WEEK = 7, FEW_DAYS = 4, MOST_KITCHENS = 40;
     private static final int LOT = 2147483647, LOT_TIMES = 48271;
@@ -24,11 +24,11 @@ public final class ThirdLeft {
     private final Company company = new Company();
     private final Evening now = new Evening();
     private final Evening[] kept = new Evening[KEPT];
-    private final Sitting sitting = new Sitting(company);
-    private final Sitting second = new Sitting(company);
-    private final Pots pots = new Pots(company, sitting);
-    private final Traces traces = new Traces(company, sitting);
-    private final Days days = new Days(company, sitting);
+    private final Sitting sitting = new Sitting();
+    private final Sitting second = new Sitting();
+    private final Pots pots = new Pots();
+    private final Traces traces = new Traces();
+    private final Days days = new Days();
     private final int[] findingCounts = new int[SIZE + 1];
     private int latestFinding;
     private int told;
@@ -88,7 +88,7 @@ public final class ThirdLeft {
         if (row.missing()) {
             return refuse(NOTHING);
         }
-        row.size = -1;
+        row.vanish();
         return 1;
     }
 
@@ -119,10 +119,10 @@ public final class ThirdLeft {
         if (row.missing()) {
             return refuse(NOTHING);
         }
-        if (row.size == 0) {
+        if (row.size() == 0) {
             return refuse(NOUGHT);
         }
-        told = (int) (row.sum() / row.size);
+        told = (int) (row.sum() / row.size());
         return 1;
     }
 
@@ -198,9 +198,7 @@ public final class ThirdLeft {
             case NOTARY:
                 return (int) Spoon.may(company.pot, Spoon.divisor(company.law, 0)) - company.needs.get(k);
             case DOG:
-                sitting.rules(company.law, PIECES, company.pot);
-                sitting.seatMoved(k, company.size - 1);
-                sitting.serve(0);
+                serveMoved(k, company.size - 1, PIECES);
                 return Integer.bitCount(sitting.fedAll());
             default:
                 return now.tookJust(k, company.needs.get(k)) ? 1 : 0;
@@ -242,7 +240,7 @@ public final class ThirdLeft {
         if (row.missing()) {
             return refuse(NOTHING);
         }
-        if (row.size != company.size) {
+        if (row.size() != company.size) {
             return refuse(SIZE);
         }
         if (!company.isOrder(row)) {
@@ -322,6 +320,7 @@ public final class ThirdLeft {
         if (!isHow(how)) {
             return BAD;
         }
+        sitting.invite(company);
         sitting.rules(company.law, how, company.pot);
         sitting.seatTurned(company.order, 0);
         sitting.serve(0);
@@ -333,7 +332,8 @@ public final class ThirdLeft {
         if (!company.has(k) || !company.has(at) || !isHow(how)) {
             return BAD;
         }
-        tellShare(takenAt(k, at, how), how);
+        serveMoved(k, at, how);
+        tellShare(sitting.takes.get(k), how);
         return 1;
     }
 
@@ -344,7 +344,8 @@ public final class ThirdLeft {
         int where = 0;
         long most = -1;
         for (int at = 0; at < company.size; at++) {
-            long taken = takenAt(k, at, how);
+            serveMoved(k, at, how);
+            long taken = sitting.takes.get(k);
             if (taken > most) {
                 most = taken;
                 where = at;
@@ -361,7 +362,7 @@ public final class ThirdLeft {
         if (company.size == 0) {
             return STATE;
         }
-        return noneIfNought(pots.least(company.order, company.law, how, 1, MOST_POT));
+        return noneIfNought(pots.lowest(company, company.order, company.law, how, 1, MOST_POT));
     }
 
     public int best(int how, int r) {
@@ -372,7 +373,7 @@ public final class ThirdLeft {
         if (company.size == 0) {
             return STATE;
         }
-        int pot = pots.leastOfOrders(how);
+        int pot = pots.leastOfOrders(company, how);
         if (pot != 0) {
             row.reset(company.size, 0);
             pots.found.moveTo(row, 0, 0, company.size);
@@ -387,7 +388,7 @@ public final class ThirdLeft {
         if (company.size == 0) {
             return STATE;
         }
-        int most = traces.mostFed(how);
+        int most = traces.mostFed(company, how);
         told = traces.orders;
         return most;
     }
@@ -402,6 +403,7 @@ public final class ThirdLeft {
         int best = 0;
         int most = -1;
         long mostRest = -1;
+        sitting.invite(company);
         for (int law = 0; law < LAWS; law++) {
             sitting.rules(law, how, company.pot);
             sitting.seatTurned(company.order, 0);
@@ -423,6 +425,7 @@ public final class ThirdLeft {
         if (!company.has(k) || d < 1 || d > WEEK || !isHow(how)) {
             return BAD;
         }
+        sitting.invite(company);
         sitting.rules(company.law, how, company.pot);
         long all = 0;
         for (int turn = 0; turn < d; turn++) {
@@ -441,7 +444,7 @@ public final class ThirdLeft {
         if (company.size == 0) {
             return STATE;
         }
-        int best = days.mostEven(d, how);
+        int best = days.mostEven(company, d, how);
         told = days.turns;
         return best;
     }
@@ -450,9 +453,11 @@ public final class ThirdLeft {
         if (!isHow(how)) {
             return BAD;
         }
+        sitting.invite(company);
         sitting.rules(company.law, how, company.pot);
         sitting.seatTurned(company.order, 0);
         sitting.serve(0);
+        second.invite(company);
         second.rules(company.law, how, company.pot);
         second.seatBackwards(company.order);
         second.serve(0);
@@ -496,7 +501,7 @@ public final class ThirdLeft {
         if (company.size == 0) {
             return STATE;
         }
-        traces.follow(v, 0, 0);
+        traces.follow(company, v, 0, 0);
         tellFraction(traces.orders, traces.ofAll);
         return traces.orders;
     }
@@ -505,7 +510,7 @@ public final class ThirdLeft {
         if (v < 0 || v > MOST_POT) {
             return BAD;
         }
-        traces.follow(v, 0, 0);
+        traces.follow(company, v, 0, 0);
         if (traces.orders == 0) {
             return refuse(NOUGHT);
         }
@@ -517,7 +522,7 @@ public final class ThirdLeft {
         if (!company.has(k) || !company.has(j) || k == j || v < 0 || v > MOST_POT) {
             return BAD;
         }
-        traces.follow(v, k, j);
+        traces.follow(company, v, k, j);
         if (traces.orders == 0) {
             return refuse(NOUGHT);
         }
@@ -536,7 +541,7 @@ public final class ThirdLeft {
         if (company.size == 0) {
             return STATE;
         }
-        return noneIfNought(pots.least(company.order, company.law, how, d, MOST_POT));
+        return noneIfNought(pots.lowest(company, company.order, company.law, how, d, MOST_POT));
     }
 
     public int kindest(int d, int how) {
@@ -550,7 +555,7 @@ public final class ThirdLeft {
         int top = MOST_POT;
         // A later law counts only if a smaller pot does by it: what is looked for is below the best.
         for (int law = 0; law < LAWS && top >= 1; law++) {
-            int pot = pots.least(company.order, law, how, d, top);
+            int pot = pots.lowest(company, company.order, law, how, d, top);
             if (pot != 0) {
                 kindest = law;
                 top = pot - 1;
@@ -571,7 +576,7 @@ public final class ThirdLeft {
             return STATE;
         }
         row.reset(company.size, 0);
-        days.byLots(n, seed, how, row);
+        days.byLots(company, n, seed, how, row);
         return row.firstGreatest();
     }
 
@@ -718,16 +723,18 @@ public final class ThirdLeft {
         return x > 0 ? x : 1;
     }
 
-    private long takenAt(int k, int at, int how) {
+    private void serveMoved(int k, int at, int how) {
+        sitting.invite(company);
         sitting.rules(company.law, how, company.pot);
-        sitting.seatMoved(k, at);
+        sitting.seatMoved(company.order, k, at);
         sitting.serve(0);
-        return sitting.takes.get(k);
     }
 
+    /** What is left by parts if these eat as mere eaters. */
     private long restWithHonest(int honest) {
+        sitting.invite(company);
+        sitting.makeEaters(honest);
         sitting.rules(company.law, PARTS, company.pot);
-        sitting.honest = honest;
         sitting.seatTurned(company.order, 0);
         sitting.serve(0);
         return sitting.rest();
@@ -767,11 +774,19 @@ public final class ThirdLeft {
     /** Ints by places; a place that there is not holds 0 and can't be set. Size -1: missing. */
     private static final class Ints {
         private final int[] v;
-        int size;
+        private int size;
 
         Ints(int room, int size) {
             this.v = new int[room > 0 ? room : 0];
-            this.size = size;
+            this.size = Math.min(size, v.length);
+        }
+
+        int size() {
+            return size;
+        }
+
+        void vanish() {
+            size = -1;
         }
 
         boolean missing() {
@@ -981,7 +996,7 @@ public final class ThirdLeft {
 
         private static int behindBlanks(Ints text, int from) {
             int at = from;
-            while (at < text.size && text.get(at) == BLANK) {
+            while (at < text.size() && text.get(at) == BLANK) {
                 at++;
             }
             return at;
@@ -1073,7 +1088,7 @@ public final class ThirdLeft {
 
         boolean isOrder(Ints row) {
             int seen = 0;
-            for (int i = 0; i < row.size; i++) {
+            for (int i = 0; i < row.size(); i++) {
                 int k = row.get(i);
                 if (!has(k) || (seen & 1 << k) != 0) {
                     return false;
@@ -1141,50 +1156,58 @@ public final class ThirdLeft {
         }
     }
 
-    /** A whole evening gone through aside: rules, then a line, then serve. */
+    /** A whole evening gone through aside: invite, rules, then a line, then serve. */
     private static final class Sitting {
-        private final Company company;
+        private final Ints kinds = new Ints(CROWD, CROWD);
+        private final Ints needs = new Ints(CROWD, CROWD);
         final Ints line = new Ints(CROWD, CROWD);
         /** By eaters: what each took. */
         final Longs takes = new Longs(CROWD);
         /** By places: what is there ahead of each, and who of those ahead of it is fed. */
         private final Longs there = new Longs(CROWD + 1);
         private final Ints fed = new Ints(CROWD + 1, CROWD + 1);
+        private int size;
         private int law;
         private int how;
-        /** Those who eat as mere eaters here. */
-        int honest;
 
-        Sitting(Company company) {
-            this.company = company;
+        void invite(Company company) {
+            size = company.size;
+            company.kinds.moveTo(kinds, 0, 0, CROWD);
+            company.needs.moveTo(needs, 0, 0, CROWD);
+        }
+
+        void makeEaters(int who) {
+            for (int k = 0; k < size; k++) {
+                if ((who & 1 << k) != 0) {
+                    kinds.set(k, EATER);
+                }
+            }
         }
 
         void rules(int law, int how, int pot) {
             this.law = law;
             this.how = how;
-            honest = 0;
             there.set(0, pot * Spoon.unit(how));
             fed.set(0, 0);
         }
 
         void seatTurned(Ints order, int turn) {
-            int n = company.size;
-            for (int i = 0; i < n; i++) {
-                line.set(i, order.get((i + turn) % n));
+            for (int i = 0; i < size; i++) {
+                line.set(i, order.get((i + turn) % size));
             }
         }
 
         void seatBackwards(Ints order) {
-            for (int i = 0; i < company.size; i++) {
-                line.set(i, order.get(company.size - 1 - i));
+            for (int i = 0; i < size; i++) {
+                line.set(i, order.get(size - 1 - i));
             }
         }
 
-        /** By the order as told, but one taken out and put in again at a place. */
-        void seatMoved(int k, int at) {
+        /** By an order, but one is taken out of it and put in again at a place. */
+        void seatMoved(Ints order, int k, int at) {
             int next = 0;
-            for (int i = 0; i < company.size; i++) {
-                int other = company.order.get(i);
+            for (int i = 0; i < size; i++) {
+                int other = order.get(i);
                 if (other != k) {
                     next += next == at ? 1 : 0;
                     line.set(next, other);
@@ -1195,27 +1218,26 @@ public final class ThirdLeft {
         }
 
         void seatByNumbers() {
-            for (int i = 0; i < company.size; i++) {
+            for (int i = 0; i < size; i++) {
                 line.set(i, i);
             }
         }
 
         /** The next line of all orders; answers the first place that is another now, -1 at the end. */
         int seatNext() {
-            int n = company.size;
-            int i = n - 2;
+            int i = size - 2;
             while (i >= 0 && line.get(i) > line.get(i + 1)) {
                 i--;
             }
             if (i < 0) {
                 return -1;
             }
-            int j = n - 1;
+            int j = size - 1;
             while (j > i && line.get(j) < line.get(i)) {
                 j--;
             }
             line.swap(i, j);
-            for (int a = i + 1, b = n - 1; a < b; a++, b--) {
+            for (int a = i + 1, b = size - 1; a < b; a++, b--) {
                 line.swap(a, b);
             }
             return i;
@@ -1224,29 +1246,31 @@ public final class ThirdLeft {
         /** All from a place on eat; what those ahead of it did stands as it was. */
         void serve(int from) {
             long unit = Spoon.unit(how);
-            for (int i = from; i < company.size; i++) {
+            for (int i = from; i < size; i++) {
                 int k = line.get(i);
-                int bit = 1 << k;
-                int kind = (honest & bit) != 0 ? EATER : company.kinds.get(k);
-                long need = company.needs.get(k) * unit;
-                long taken = Spoon.take(kind, need, there.get(i), Spoon.divisor(law, i));
+                long need = needs.get(k) * unit;
+                long taken = Spoon.take(kinds.get(k), need, there.get(i), Spoon.divisor(law, i));
                 takes.set(k, taken);
                 there.set(i + 1, there.get(i) - taken);
-                fed.set(i + 1, taken >= need ? fed.get(i) | bit : fed.get(i));
+                fed.set(i + 1, taken >= need ? fed.get(i) | 1 << k : fed.get(i));
             }
         }
 
         int fedAll() {
-            return fed.get(company.size);
+            return fed.get(size);
+        }
+
+        boolean isAll(int set) {
+            return Integer.bitCount(set) == size;
         }
 
         long rest() {
-            return there.get(company.size);
+            return there.get(size);
         }
 
         long takenBy(int who) {
             long all = 0;
-            for (int k = 0; k < company.size; k++) {
+            for (int k = 0; k < size; k++) {
                 all += (who & 1 << k) != 0 ? takes.get(k) : 0;
             }
             return all;
@@ -1255,22 +1279,17 @@ public final class ThirdLeft {
 
     /** The least pots by which all are fed. */
     private static final class Pots {
-        private final Company company;
-        private final Sitting sitting;
-        private final Ints line = new Ints(CROWD, CROWD);
+        private final Sitting sitting = new Sitting();
+        private final Sitting trial = new Sitting();
         /** The order of the latest leastOfOrders(). */
         final Ints found = new Ints(CROWD, CROWD);
-
-        Pots(Company company, Sitting sitting) {
-            this.company = company;
-            this.sitting = sitting;
-        }
 
         /**
          * The least pot, top at most, by which in so many evenings all are fed once; 0 if none.
          * Of more there each kind takes no less and leaves no less, so that halving finds it.
          */
-        int least(Ints order, int law, int how, int evenings, int top) {
+        int lowest(Company company, Ints order, int law, int how, int evenings, int top) {
+            trial.invite(company);
             if (!feeds(order, law, how, evenings, top)) {
                 return 0;
             }
@@ -1289,38 +1308,33 @@ public final class ThirdLeft {
 
         private boolean feeds(Ints order, int law, int how, int evenings, int pot) {
             int fed = 0;
-            sitting.rules(law, how, pot);
+            trial.rules(law, how, pot);
             for (int turn = 0; turn < evenings; turn++) {
-                sitting.seatTurned(order, turn);
-                sitting.serve(0);
-                fed |= sitting.fedAll();
+                trial.seatTurned(order, turn);
+                trial.serve(0);
+                fed |= trial.fedAll();
             }
-            return fed == everyone();
-        }
-
-        private int everyone() {
-            return (1 << company.size) - 1;
+            return trial.isAll(fed);
         }
 
         /** The least pot of all orders, 0 if none; the first such order comes to found. */
-        int leastOfOrders(int how) {
+        int leastOfOrders(Company company, int how) {
             int top = MOST_POT;
             int from = 0;
+            sitting.invite(company);
             sitting.seatByNumbers();
             sitting.rules(company.law, how, top);
             // An order is worth a search only if it does with less than the best one ahead of it.
             for (int i = 0; i < ALL_ORDERS && from >= 0 && top >= 1; i++) {
                 sitting.serve(from);
-                if (sitting.fedAll() == everyone()) {
+                boolean better = sitting.isAll(sitting.fedAll());
+                if (better) {
                     sitting.line.moveTo(found, 0, 0, CROWD);
-                    sitting.line.moveTo(line, 0, 0, CROWD);
-                    top = least(line, company.law, how, 1, top) - 1;
-                    line.moveTo(sitting.line, 0, 0, CROWD);
+                    top = lowest(company, found, company.law, how, 1, top) - 1;
                     sitting.rules(company.law, how, top);
-                    from = sitting.seatNext() < 0 ? -1 : 0;
-                } else {
-                    from = sitting.seatNext();
                 }
+                from = sitting.seatNext();
+                from = better && from > 0 ? 0 : from;
             }
             return top == MOST_POT ? 0 : top + 1;
         }
@@ -1328,8 +1342,7 @@ public final class ThirdLeft {
 
     /** What all the orders tell. */
     private static final class Traces {
-        private final Company company;
-        private final Sitting sitting;
+        private final Sitting sitting = new Sitting();
         /** How many orders did what was looked for, and of how many. */
         int orders;
         int ofAll;
@@ -1338,14 +1351,10 @@ public final class ThirdLeft {
         int firsts;
         int aheads;
 
-        Traces(Company company, Sitting sitting) {
-            this.company = company;
-            this.sitting = sitting;
-        }
-
-        int mostFed(int how) {
+        int mostFed(Company company, int how) {
             int most = -1;
             orders = 0;
+            sitting.invite(company);
             sitting.rules(company.law, how, company.pot);
             sitting.seatByNumbers();
             int from = 0;
@@ -1363,12 +1372,13 @@ public final class ThirdLeft {
         }
 
         /** Looks for the orders by which so many pieces are left; none if there are no eaters. */
-        void follow(int left, int one, int other) {
+        void follow(Company company, int left, int one, int other) {
             orders = 0;
             ofAll = 0;
             lasts = 0;
             firsts = 0;
             aheads = 0;
+            sitting.invite(company);
             sitting.rules(company.law, PIECES, company.pot);
             sitting.seatByNumbers();
             int from = company.size == 0 ? -1 : 0;
@@ -1376,29 +1386,28 @@ public final class ThirdLeft {
                 sitting.serve(from);
                 ofAll++;
                 if (sitting.rest() == left) {
-                    note(one, other);
+                    note(company.size, one, other);
                 }
                 from = sitting.seatNext();
             }
         }
 
-        private void note(int one, int other) {
+        private void note(int size, int one, int other) {
             orders++;
             firsts |= 1 << sitting.line.get(0);
-            lasts |= 1 << sitting.line.get(company.size - 1);
+            lasts |= 1 << sitting.line.get(size - 1);
             boolean met = false;
-            for (int i = 0; i < company.size && !met; i++) {
+            for (int i = 0; i < size && !met; i++) {
                 int k = sitting.line.get(i);
                 met = k == one || k == other;
-                aheads += met && k == one ? 1 : 0;
+                aheads += k == one ? 1 : 0;
             }
         }
     }
 
     /** Evenings in a row: turns that are even, and lots. */
     private static final class Days {
-        private final Company company;
-        private final Sitting sitting;
+        private final Sitting sitting = new Sitting();
         private final Ints fedByTurn = new Ints(CROWD, CROWD);
         private final Ints chosen = new Ints(FEW_DAYS, FEW_DAYS);
         private final Ints drawn = new Ints(CROWD, CROWD);
@@ -1406,14 +1415,11 @@ public final class ThirdLeft {
         /** The turns of the latest mostEven(), as figures. */
         int turns;
 
-        Days(Company company, Sitting sitting) {
-            this.company = company;
-            this.sitting = sitting;
-        }
-
-        int mostEven(int d, int how) {
+        int mostEven(Company company, int d, int how) {
+            int size = company.size;
+            sitting.invite(company);
             sitting.rules(company.law, how, company.pot);
-            for (int turn = 0; turn < company.size; turn++) {
+            for (int turn = 0; turn < size; turn++) {
                 sitting.seatTurned(company.order, turn);
                 sitting.serve(0);
                 fedByTurn.set(turn, sitting.fedAll());
@@ -1421,21 +1427,21 @@ public final class ThirdLeft {
             chosen.reset(FEW_DAYS, 0);
             int best = -1;
             boolean more = true;
-            for (int i = 0; i < 2401 && more; i++) {
-                int fed = leastOftenFed(d);
+            for (int i = 0; i < ALL_TURNS && more; i++) {
+                int fed = leastOftenFed(size, d);
                 if (fed > best) {
                     best = fed;
                     turns = figures(d);
                 }
-                more = chooseNext(d);
+                more = chooseNext(size, d);
             }
             return best;
         }
 
         /** Of the same turns in any order the rising one comes first, so the others are passed by. */
-        private boolean chooseNext(int d) {
+        private boolean chooseNext(int size, int d) {
             int day = d - 1;
-            while (day >= 0 && chosen.get(day) >= company.size - 1) {
+            while (day >= 0 && chosen.get(day) >= size - 1) {
                 day--;
             }
             if (day < 0) {
@@ -1448,9 +1454,9 @@ public final class ThirdLeft {
             return true;
         }
 
-        private int leastOftenFed(int d) {
+        private int leastOftenFed(int size, int d) {
             int least = d;
-            for (int k = 0; k < company.size; k++) {
+            for (int k = 0; k < size; k++) {
                 int times = 0;
                 for (int day = 0; day < d; day++) {
                     times += fedByTurn.get(chosen.get(day)) >> k & 1;
@@ -1469,11 +1475,12 @@ public final class ThirdLeft {
         }
 
         /** How often each is fed is added to times. */
-        void byLots(int n, int seed, int how, Ints times) {
+        void byLots(Company company, int n, int seed, int how, Ints times) {
             lot = seed;
+            sitting.invite(company);
             sitting.rules(company.law, how, company.pot);
             for (int i = 0; i < n; i++) {
-                draw();
+                draw(company);
                 sitting.seatTurned(drawn, 0);
                 sitting.serve(0);
                 for (int k = 0; k < company.size; k++) {
@@ -1482,7 +1489,7 @@ public final class ThirdLeft {
             }
         }
 
-        private void draw() {
+        private void draw(Company company) {
             company.order.moveTo(drawn, 0, 0, CROWD);
             for (int place = company.size - 1; place >= 1; place--) {
                 lot = lot * LOT_TIMES % LOT;
