@@ -1188,7 +1188,6 @@ public final class ThirdLeft {
             this.law = law;
             this.how = how;
             there.set(0, pot * Spoon.unit(how));
-            fed.set(0, 0);
         }
 
         void seatTurned(Ints order, int turn) {

@@ -31,10 +31,16 @@ public final class BonesTest {
         due.tells("bones(3) by a half", x, x.bones(3), 1, 1, 2);
         ThirdLeft dog = Due.tableOf("p30 n2 d0 e1");
         due.tells("bones(0) with a dog", dog, dog.bones(0), 6, 1, 1);
+        due.asks("last(0) with a dog", dog, dog.last(0), 7, 7);
+        due.is("ahead(0, 1, 0) with a dog", dog.ahead(0, 1, 0), 2);
         ThirdLeft three = Due.tableOf("p10 n5 n1 e1");
         // The orders: 5 1 2 of 4 left 2; 5 3 1: 1; 1 5 2: 2; 1 6 (of 3: 2): 1; 6 2 (of 2) 1: 1; 6 1 2: 1.
         due.tells("bones(2) of three", three, three.bones(2), 2, 1, 3);
         due.tells("bones(1) of three", three, three.bones(1), 4, 2, 3);
+        ThirdLeft full = Due.tableOf("p999 n0 n0");
+        due.tells("bones(999) of 999", full, full.bones(999), 2, 1, 1);
+        due.asks("last(999) of 999", full, full.last(999), 3, 3);
+        due.is("ahead(0, 1, 999) of 999", full.ahead(0, 1, 999), 2);
         due.refuses("bones(-1)", x, o -> o.bones(-1), -1, 0);
         due.refuses("bones(1000)", x, o -> o.bones(1000), -1, 0);
     }

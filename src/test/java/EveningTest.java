@@ -156,7 +156,13 @@ public final class EveningTest {
         due.is("on(1) again", x.on(1), 1);
         due.tells("left()", x, x.left(), 1, 30, 1);
         due.is("on(2)", x.on(2), 2);
+        due.tells("took(2) by pieces", x, x.took(2), 1, 8, 1);
+        due.tells("took(1) by pieces", x, x.took(1), 1, 4, 1);
         due.tells("eat() by pieces", x, x.eat(), 0, 2, 1);
+        x.on(1);
+        due.tells("took(0) by parts again", x, x.took(0), 1, 60, 1);
+        x.on(2);
+        x.eat();
         due.is("keep(2) over it", x.keep(2), 3);
         due.is("count(5)", x.count(5), 2);
         x.begin(0);

@@ -43,6 +43,7 @@ public final class FamineTest {
         due.is("law(3) as it was", x.law(3), 3);
         ThirdLeft alike = Due.tableOf("p9 l2 d5");
         due.asks("kindest(1, 0) of alike ones", alike, alike.kindest(1, 0), 0, 5);
+        due.asks("kindest(7, 1)", x, x.kindest(7, 1), 1, 14);
         ThirdLeft turns = Due.tableOf("p1 e60 e1 e10");
         due.asks("kindest(1, 0), by turns", turns, turns.kindest(1, 0), 3, 90);
         ThirdLeft four = Due.tableOf("p1 e99 e99 e99 e99");
@@ -74,6 +75,7 @@ public final class FamineTest {
         ThirdLeft cut = Due.tableOf("p100 e67 e0");
         due.is("kitchens(3, 1, 1, 5) by pieces", cut.kitchens(3, 1, 1, 5), 1);
         due.asks("at(5, 0) by pieces", cut, cut.at(5, 0), 1, 0);
+        lotsAre(Due.tableOf("p90 l2 e22 e22"), 4, 1, 0, 4, 4);
         due.is("kitchens(1, 2147483646, 0, 5)", cut.kitchens(1, 2147483646, 0, 5), 1);
         due.is("kitchens(40, 2147483646, 0, 5)", cut.kitchens(40, 2147483646, 0, 5), 1);
         due.asks("at(5, 1)", cut, cut.at(5, 1), 1, 40);

@@ -195,9 +195,18 @@ public final class ToldTest {
                 -1, 2, -5, 7, -1, 2, 1, 0, 0, -1,
                 2, 112, -56, -1, -1, -1);
         due.is("digest()", x.digest(), wanted);
+        x.begin(1);
+        x.eat();
+        // By pieces of 40 by a half: the eater 20.
+        due.is("digest() by pieces", x.digest(), digestOf(2, 22, 1, 0, 1, 2, 3, 1, 40, 2,
+                1, 12, 1, 0, 10, 0,
+                1, 20, 1,
+                1, 20, 1,
+                1, -1, 0,
+                -1, 2, -5, 7, -1, 2, 1, 0, 0, -1,
+                2, 112, -56, -1, -1, -1));
         due.is("asked() stays", x.asked(), 1);
-        due.is("upper() stays", x.upper(), 100);
-        due.is("digest() again", x.digest(), wanted);
+        due.is("upper() stays", x.upper(), 20);
     }
 
     private static long digestOf(long... values) {

@@ -28,6 +28,8 @@ public final class WeeksTest {
         due.tells("week(0, 2, 0) of three", three, three.week(0, 2, 0), 1, 20, 1);
         due.tells("week(1, 2, 0) of three", three, three.week(1, 2, 0), 1, 24, 1);
         due.tells("week(2, 2, 0) of three", three, three.week(2, 2, 0), 1, 8, 1);
+        ThirdLeft quarter = Due.tableOf("p100 l1 e1 e1");
+        due.tells("week(0, 2, 0) by a quarter", quarter, quarter.week(0, 2, 0), 1, 375, 4);
         due.refuses("week(2, 1, 0)", x, o -> o.week(2, 1, 0), -1, 0);
         due.refuses("week(-1, 1, 0)", x, o -> o.week(-1, 1, 0), -1, 0);
         due.refuses("week(0, 0, 0)", x, o -> o.week(0, 0, 0), -1, 0);
@@ -57,6 +59,8 @@ public final class WeeksTest {
         Due.fill(dog, 0, 1, 2, 3, 4, 5, 0, 6);
         dog.order(0);
         due.asks("even(4, 1), the dog last", dog, dog.even(4, 1), 4, 6 * (343 + 49 + 7 + 1));
+        ThirdLeft half = Due.tableOf("p90 l2 e22 e22");
+        due.asks("even(1, 0) by a half", half, half.even(1, 0), 1, 0);
         due.refuses("even(0, 0)", x, o -> o.even(0, 0), -1, 0);
         due.refuses("even(5, 0)", x, o -> o.even(5, 0), -1, 0);
         due.refuses("even(1, 2)", x, o -> o.even(1, 2), -1, 0);
@@ -81,6 +85,9 @@ public final class WeeksTest {
         due.asks("two(0) of ten", cut, cut.two(0), 1, 1);
         cut.need(0, 9);
         due.asks("two(0) of ten, 9 wanted", cut, cut.two(0), 0, 0);
+        ThirdLeft half = Due.tableOf("p90 l2 e67 e68");
+        due.asks("two(0) by a half", half, half.two(0), 1, 1);
+        due.asks("two(1) by a half", half, half.two(1), 1, 1);
         due.refuses("two(2)", x, o -> o.two(2), -1, 0);
         due.refuses("two(-1)", x, o -> o.two(-1), -1, 0);
     }

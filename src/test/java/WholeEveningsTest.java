@@ -118,6 +118,12 @@ public final class WholeEveningsTest {
         ThirdLeft last = Due.tableOf("p1 e74 e1 e1");
         due.is("best(0, 0)", last.best(0, 0), 111);
         rowIs(last, 0, 0, 1, 2);
+        ThirdLeft quarter = Due.tableOf("p1 l1 e11 e10");
+        due.is("best(0, 0) by a quarter", quarter.best(0, 0), 54);
+        rowIs(quarter, 0, 0, 1);
+        ThirdLeft half = Due.tableOf("p1 l2 e10 g12");
+        due.is("best(0, 0) by a half", half.best(0, 0), 48);
+        rowIs(half, 0, 1, 0);
         ThirdLeft none = Due.tableOf("p5 e99 e99 e99 e99");
         Due.fill(none, 3, 8, 7);
         due.refuses("best(0, 3)", none, o -> o.best(0, 3), -9, 0);
@@ -141,6 +147,7 @@ public final class WholeEveningsTest {
         mostIs("p20 g2 e10", 1, 2, 1);
         mostIs("p19 g3 e12", 0, 1, 2);
         mostIs("p1 e9 e9", 0, 0, 2);
+        mostIs("p16 l1 e12 e3", 0, 2, 1);
         mostIs("p9 e0 d1 g0", 1, 3, 6);
         mostIs("p9 e1 d1 g0", 1, 3, 3);
         ThirdLeft x = Due.tableOf("p9 e1");
