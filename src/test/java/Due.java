@@ -1,5 +1,8 @@
 /** Counts the answers of one test class and prints those that are not due. */
 final class Due {
+    private static final String[] STANDS = {"finding()", "findings(1)", "findings(2)", "findings(3)", "findings(4)",
+        "findings(5)", "asked()", "upper()", "lower()", "digest()"};
+
     private final String name;
     private int right;
     private int wrong;
@@ -34,28 +37,41 @@ final class Due {
 
     /** A call that is refused, and with which finding (0: with none). */
     void refuses(String call, ThirdLeft x, Call refused, int want, int finding) {
-        long digest = x.digest();
-        int asked = x.asked();
-        long upper = x.upper();
-        long lower = x.lower();
-        int latest = x.finding();
-        int[] counts = new int[6];
-        for (int f = 1; f <= 5; f++) {
-            counts[f] = x.findings(f);
-        }
+        long[] before = stands(x);
         is(call, refused.on(x), want);
-        is(call + " leaves digest()", x.digest(), digest);
-        is(call + " leaves asked()", x.asked(), asked);
-        is(call + " leaves upper()", x.upper(), upper);
-        is(call + " leaves lower()", x.lower(), lower);
-        is(call + ", finding()", x.finding(), finding == 0 ? latest : finding);
-        for (int f = 1; f <= 5; f++) {
-            is(call + ", findings(" + f + ")", x.findings(f), counts[f] + (f == finding ? 1 : 0));
+        stays(call, before, stands(x), finding);
+    }
+
+    /** The findings, and all that a refused call leaves as it is. */
+    static long[] stands(ThirdLeft x) {
+        return new long[] {x.finding(), x.findings(1), x.findings(2), x.findings(3), x.findings(4), x.findings(5),
+            x.asked(), x.upper(), x.lower(), x.digest()};
+    }
+
+    /** What stands behind a call that is refused with a finding (0: with none). */
+    void stays(String call, long[] before, long[] behind, int finding) {
+        for (int i = 0; i < STANDS.length; i++) {
+            long want = before[i];
+            if (finding != 0 && i == 0) {
+                want = finding;
+            } else if (finding != 0 && i == finding) {
+                want = before[i] + 1;
+            }
+            is(call + ", " + STANDS[i], behind[i], want);
         }
     }
 
     interface Call {
         int on(ThirdLeft x);
+    }
+
+    int answers() {
+        return right + wrong;
+    }
+
+    void add(Due other) {
+        right += other.right;
+        wrong += other.wrong;
     }
 
     /** The last call of a main method. */
