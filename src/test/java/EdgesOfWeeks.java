@@ -53,9 +53,9 @@ final class EdgesOfWeeks {
             "even(4, 1) -> 4 asks 2400", "even(2, 1) -> 2 asks 48",
             // Four of whom one is fed, the first: each once by the turns 0 1 2 3.
             "TABLE 'p9 e6 e6 e6 e6' -> 4", "even(3, 0) -> 0 asks 0", "even(4, 0) -> 1 asks 66",
-            // There is no turn by 2 of two, though there was one of seven ahead.
-            "TABLE 'p999 e0 e0 e0 e0 e0 e0 e0' -> 7", "even(4, 0) -> 4 asks 0", "TABLE 'p90 e50 e50' -> 2",
-            "even(1, 0) -> 0 asks 0");
+            // There is no turn by 1 of one, none by 2 of two, though there was one of seven ahead.
+            "TABLE 'p999 e0 e0 e0 e0 e0 e0 e0' -> 7", "even(4, 0) -> 4 asks 0", "TABLE 'p9 e10' -> 1",
+            "even(1, 0) -> 0 asks 0", "TABLE 'p90 e50 e50' -> 2", "even(1, 0) -> 0 asks 0");
         edges.says(33, "BAD").of(
             "even(0, 0) -> BAD", "TABLE 'p9 e1' -> 1", "even(0, 0) -> BAD", "even(5, 0) -> BAD", "even(-1, 0) -> BAD",
             "even(1, -1) -> BAD",
@@ -116,6 +116,8 @@ final class EdgesOfWeeks {
             "TABLE 'p9 d1 c1 c1' -> 3", "cheats() -> 1 tells 0/1",
             // 35/36 less 8/9 of 36.
             "TABLE 'p36 c1 c1' -> 2", "cheats() -> 1 tells 3/1",
+            // As CHEATS 30, 4, 5/3, as EATERS 24, 8, 8/3: what the one between takes less does not count.
+            "TABLE 'p36 c1 e1 c1' -> 3", "cheats() -> 1 tells 5/1",
             // Of seven a 279936th is left, as EATERS a 2187th.
             "TABLE 'p1 c1 c1 c1 c1 c1 c1 c1' -> 7", "cheats() -> 1 tells 127/279936");
     }
